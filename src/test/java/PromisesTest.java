@@ -299,6 +299,14 @@ public final class PromisesTest {
         x.move(0, 5, 7);
         due("8: least FAR goes first, left", x.attempt(2, 0), 1);
         due("8: least FAR goes first, right", x.attempt(2, 1), 2);
+        NeedlePairs z = new NeedlePairs();
+        z.point(0, 5, 5);
+        z.point(1, 5, 6);
+        z.point(1, 5, 7);
+        z.point(0, 7, 6);
+        // 0-1 is FAR by 1, and stays ahead of all that come later: 0-2, 3-1 (4) and 3-2 (5).
+        due("8: the first stays, left", z.attempt(2, 0), 0);
+        due("8: the first stays, right", z.attempt(2, 1), 1);
         NeedlePairs y = new NeedlePairs();
         y.point(3, 0, 0);
         y.point(2, 1, 0);
@@ -364,7 +372,7 @@ public final class PromisesTest {
 
     private static void told() {
         NeedlePairs x = twoNets();
-        String[] none = {"", "a", "ab", "abb", "abd", "abcc", "abca", "ABC", "ab`", "ab{", "ab!", "ab~", "aaa"};
+        String[] none = {"", "a", "ab", "abb", "abd", "abcc", "abca", "ABC", "ab`", "ab{", "ab!", "ab~", "aaa", "aba", "!bc", "dbc"};
         for (String text : none) {
             write(x, text);
             due("12: " + text, x.told(), -7);
@@ -686,5 +694,8 @@ public final class PromisesTest {
         due("23: ten TRIES", y.count(1), 10);
         due("23: six of NEIGHBOURS", y.count(2), 6);
         due("23: four NETS", y.count(3), 4);
+        NeedlePairs z = new NeedlePairs();
+        z.point(2, 0, 0);
+        due("23: one NET", z.count(3), 1);
     }
 }
