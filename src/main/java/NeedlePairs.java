@@ -18,6 +18,8 @@ public final class NeedlePairs {
     private static final int FIRST_NEAR = 50;
     private static final int LOWEST_SIGN = 33;
     private static final int HIGHEST_SIGN = 126;
+    /** No needle ever goes farther than SIDE at once, so an ORDER takes at most MOST_TRIES times SIDE. */
+    private static final int BEYOND_ALL_TIMES = MOST_TRIES * SIDE + 1;
 
     /** The pairs of NETS, in the order in which the document numbers SINGLE FLAWS. */
     private static final int[] LESSER_NET = {0, 0, 0, 1, 1, 2};
@@ -693,7 +695,7 @@ public final class NeedlePairs {
 
         private int nearestOf(int stand, int set) {
             int nearest = 0;
-            int least = Integer.MAX_VALUE;
+            int least = BEYOND_ALL_TIMES;
             for (int next = 0; next < total; next++) {
                 if (isIn(set, next) && leap(stand, next) < least) {
                     nearest = next;
@@ -717,7 +719,7 @@ public final class NeedlePairs {
 
         /** The least TIME from a stand through all of a set that has a TRY. */
         private int leastThrough(int stand, int set) {
-            int least = Integer.MAX_VALUE;
+            int least = BEYOND_ALL_TIMES;
             for (int next = 0; next < total; next++) {
                 int bit = 1 << next;
                 if ((set & bit) != 0) {

@@ -23,6 +23,9 @@ public final class LanguageTest {
         "\\bthrows?\\b", "\\btry\\b", "\\bcatch\\b", "\\bsynchronized\\b", "\\bassert\\b", "\\bpackage\\b", "->", "::",
         "\\bimport\\b", "Exact\\b", "\\bnative\\b", "\\bstatic\\s*\\{", "\\bThread\\b", "\\bSystem\\.(?!arraycopy)"
     };
+    /** Of the library that LANGUAGE.md lists, what the program uses; a new name is to be looked up there first. */
+    private static final Set<String> LIBRARY = Set.of("Integer.bitCount", "Math.max", "Math.min", "Math.abs");
+    private static final int LONGEST_METHOD = 60;
     private static int wrong = 0;
 
     private static void due(boolean holds, String what) {
@@ -112,5 +115,29 @@ public final class LanguageTest {
             Matcher matcher = Pattern.compile(ruled).matcher(text);
             due(!matcher.find(), "the source has no " + ruled);
         }
+        library(text);
+        methods(text);
+    }
+
+    private static void library(String text) {
+        Matcher matcher = Pattern.compile("\\b[A-Z][A-Za-z]*\\.\\w+").matcher(text);
+        while (matcher.find()) {
+            due(LIBRARY.contains(matcher.group()), matcher.group() + " is in the list of what may be used");
+        }
+    }
+
+    /** A method begins with its head and ends with the brace that stands as far in as its head. */
+    private static void methods(String text) {
+        Matcher matcher = Pattern.compile("(?ms)^( +)(?:public|private)[^;=\n]*\\) \\{\n.*?^\\1\\}").matcher(text);
+        int found = 0;
+        while (matcher.find()) {
+            found++;
+            String head = matcher.group().lines().findFirst().orElse("").trim();
+            due(matcher.group().lines().count() <= LONGEST_METHOD, head + " is short");
+            boolean isConstructor = head.startsWith("public NeedlePairs(");
+            // All calls of a run share one room: what a call needs is made with the object.
+            due(isConstructor || !Pattern.compile("\\bnew\\b").matcher(matcher.group()).find(), head + " makes nothing");
+        }
+        due(found > FACE.size(), "the methods were found: " + found);
     }
 }

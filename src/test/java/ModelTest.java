@@ -13,6 +13,8 @@ import java.util.Random;
 public final class ModelTest {
     private static final int RUNS = 400;
     private static final int CALLS = 160;
+    /** An object is good for 512 calls; a step of a run makes at most 13 (an ORDER of ten signs put on THE PAD). */
+    private static final int MOST_CALLS = 512 - 13;
     private static int wrong = 0;
 
     public static void main(String[] args) {
@@ -40,7 +42,8 @@ public final class ModelTest {
         Model model = new Model();
         int side = new int[] {2, 6, 12, 20}[run % 4];
         StringBuilder story = new StringBuilder();
-        for (int call = 0; call < CALLS; call++) {
+        int made = 0;
+        for (int call = 0; call < CALLS && made <= MOST_CALLS; call++) {
             int which = call < 10 ? 0 : random.nextInt(30);
             int[] a = arguments(which, random, side, model);
             int got = onReal(real, which, a);
@@ -49,11 +52,12 @@ public final class ModelTest {
             if (got != want) {
                 wrong++;
                 System.out.println("run " + run + ": answered " + got + ", due is " + want + " at the end of" + story);
-                return call;
+                return made;
             }
             seenTries[model.tries().size()]++;
+            made += which < 26 ? 1 : 3 + model.tries().size();
         }
-        return CALLS;
+        return made;
     }
 
     private static int[] arguments(int which, Random random, int side, Model model) {

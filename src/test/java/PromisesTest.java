@@ -372,7 +372,8 @@ public final class PromisesTest {
 
     private static void told() {
         NeedlePairs x = twoNets();
-        String[] none = {"", "a", "ab", "abb", "abd", "abcc", "abca", "ABC", "ab`", "ab{", "ab!", "ab~", "aaa", "aba", "!bc", "dbc"};
+        String[] none = {"", "a", "ab", "abb", "abd", "abcc", "abca", "ABC", "ab`", "ab{", "ab!", "ab~", "aaa", "aba",
+            "!bc", "dbc"};
         for (String text : none) {
             write(x, text);
             due("12: " + text, x.told(), -7);
