@@ -302,6 +302,9 @@ public final class EdgesOfTermsTest {
             dueTries("0-2 is joined by way of 1", board(0, 0, 0, 0, 1, 0, 0, 2, 0), 0, 1, 1, 2);
             // A ring of FAR 4: 0-2, 0-3, 1-2 join all, 1-3 would close it.
             dueTries("a ring", board(0, 0, 0, 0, 2, 2, 0, 0, 2, 0, 2, 0), 0, 2, 0, 3, 2, 1);
+            // 0-2, then 1-2: 0 and 1 are joined by way of 2, so 1-3 comes, which is farther than 0-1.
+            dueTries("the least POINT joined first", board(0, 0, 0, 0, 3, 0, 0, 1, 0, 0, 20, 20), 0, 2, 2, 1, 1, 3);
+            dueTries("the same beside another NET", board(0, 0, 0, 0, 3, 0, 0, 1, 0, 3, 20, 20), 0, 2, 2, 1);
         });
         test("TREE: POINTS at one place are joined first, by the least POINT", () -> {
             dueTries("all at one place", board(1, 7, 7, 1, 7, 7, 1, 7, 7, 1, 7, 7), 0, 1, 0, 2, 0, 3);
