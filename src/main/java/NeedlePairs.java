@@ -708,7 +708,8 @@ public final class NeedlePairs {
         private void weighOnward() {
             // The empty set weighs 0, always. Sets rise, so each set without one of its TRIES
             // has been weighed before the set itself.
-            for (int set = 1; set <= allTries(); set++) {
+            int all = allTries();
+            for (int set = 1; set <= all; set++) {
                 for (int last = 0; last < total; last++) {
                     if (!isIn(set, last)) {
                         onward[set * MOST_TRIES + last] = leastThrough(last + 1, set);

@@ -459,6 +459,20 @@ public final class EdgesOfTermsTest {
             due("best(-1)", x.best(-1), 0);
             due("nearest(-1)", x.nearest(-1), 0);
         });
+        test("ORDER: the greatest TIME that there can be, ten TRIES of 20 each", () -> {
+            // Each TRY stands on corners, no two TRIES alike, and none where needles stand at first.
+            NeedlePairs x = board(0, 0, 0, 0, 20, 20, 1, 0, 20, 1, 20, 0, 2, 0, 20, 2, 0, 0, 3, 20, 0, 3, 20, 20);
+            x.near(400);
+            dueTries("TRIES", x, 0, 1, 2, 3, 4, 5, 6, 7, 0, 2, 0, 5, 1, 7, 2, 4, 3, 6, 4, 7);
+            say(x, "jihgfedcba");
+            due("told()", x.told(), 200);
+            due("best(-1)", x.best(-1), 200);
+            due("nearest(-1)", x.nearest(-1), 200);
+            for (int k = 0; k < 10; k++) {
+                due("best(" + k + ")", x.best(k), k);
+                due("nearest(" + k + ")", x.nearest(k), k);
+            }
+        });
         test("ORDER: of one TRY, from where they stand at first", () -> {
             NeedlePairs x = board(0, 3, 4, 0, 9, 9);
             say(x, "a");

@@ -100,10 +100,18 @@ public final class LanguageTest {
             due(Modifier.isStatic(one.getModifiers()), one.getName() + " is static");
             due(!Modifier.isPublic(one.getModifiers()), one.getName() + " is not public");
             due(one.getDeclaredFields().length <= 20, one.getName() + " has at most twenty fields");
+            for (Field field : one.getDeclaredFields()) {
+                due(!Modifier.isStatic(field.getModifiers()), one.getName() + ": " + field.getName() + " is not static");
+            }
             for (Method method : one.getDeclaredMethods()) {
                 due(method.getParameterCount() <= 7, method.getName() + " takes at most seven parameters");
+                due(!isOfFace(method.getName()), one.getName() + ": " + method.getName() + " is no name of the face");
             }
         }
+    }
+
+    private static boolean isOfFace(String name) {
+        return FACE.stream().anyMatch(signature -> signature.startsWith(name + "("));
     }
 
     private static void source() throws IOException {
